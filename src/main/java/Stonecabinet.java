@@ -881,8 +881,8 @@ public final class Stonecabinet {
             if (!isSame) {
                 count = stones;
                 takeScratches();
-                countWays();
-                countPlaces();
+                countWaysAhead();
+                countWaysBehind();
                 findRing();
             }
         }
@@ -915,16 +915,15 @@ public final class Stonecabinet {
         }
 
         private int fullSet() {
-            return (1 << count) - 1;
+            return count <= 0 ? 0 : (1 << count) - 1;
         }
 
         private boolean canBeNext(int stone, int set) {
             return (set >> stone & 1) == 0 && (harderOnes[stone] & ~set) == 0;
         }
 
-        private void countWays() {
+        private void countWaysAhead() {
             Arrays.fill(ahead, 0);
-            Arrays.fill(behind, 0);
             int full = fullSet();
             ahead[0] = 1;
             for (int set = 0; set <= full; set++) {
@@ -934,29 +933,30 @@ public final class Stonecabinet {
                     }
                 }
             }
+        }
+
+        /** A set that never stands ahead is left out: no order goes by it. */
+        private void countWaysBehind() {
+            Arrays.fill(behind, 0);
+            Arrays.fill(atRank, 0);
+            Arrays.fill(ofPair, 0);
+            int full = fullSet();
             behind[full] = 1;
             for (int set = full - 1; set >= 0; set--) {
                 for (int stone = 0; ahead[set] > 0 && stone < count; stone++) {
                     if (canBeNext(stone, set)) {
-                        behind[set] += behind[set | 1 << stone];
+                        int next = set | 1 << stone;
+                        behind[set] += behind[next];
+                        addWays(set, stone, ahead[set] * behind[next]);
                     }
                 }
             }
         }
 
-        private void countPlaces() {
-            Arrays.fill(atRank, 0);
-            Arrays.fill(ofPair, 0);
-            int full = fullSet();
-            for (int set = 0; set < full; set++) {
-                int rank = Integer.bitCount(set);
-                for (int stone = 0; ahead[set] > 0 && stone < count; stone++) {
-                    if (canBeNext(stone, set)) {
-                        int ways = ahead[set] * behind[set | 1 << stone];
-                        atRank[stone * MOST_STONES + rank] += ways;
-                        addPairs(set, stone, ways);
-                    }
-                }
+        private void addWays(int set, int stone, int ways) {
+            if (ways > 0) {
+                atRank[stone * MOST_STONES + Integer.bitCount(set)] += ways;
+                addPairs(set, stone, ways);
             }
         }
 
