@@ -1123,6 +1123,12 @@ public final class PromiseTests {
         is("errorPosition", 300, x.errorPosition());
         put(text.substring(0, 26 * 9));
         noState("join of 26", () -> x.join());
+        // No text has more than 32 entries: 26 codes of one letter, and longer ones.
+        String most = text.substring(0, 26 * 9 + 5 * 10);
+        badText(most + "ea0 1 1 0;", 284);
+        badText(most + "a0 1 1 0;", 284);
+        put(most + "fa0 1 1 0;");
+        noState("join of 32", () -> x.join());
         put(text.substring(0, 90));
         is("join of 10", 10, x.join());
         put(text.substring(0, 90));
