@@ -1,86 +1,5 @@
-import java.util.function.LongSupplier;
-
 /** For each promise: ordinary inputs, the edges that the document names, and wrong inputs; the answers by hand. */
-public final class PromiseTests {
-    private static final int MOST = Integer.MAX_VALUE;
-    private static final int LEAST = Integer.MIN_VALUE;
-
-    private static int promise = 0;
-    private static int checked = 0;
-    private static int wrong = 0;
-    private static Stonecabinet x;
-
-    private static void fresh() {
-        x = new Stonecabinet();
-    }
-
-    private static void is(String call, Object due, Object got) {
-        checked++;
-        if (!due.equals(got)) {
-            wrong++;
-            System.out.println("promise " + promise + ": " + call + " answered " + got + ", due is " + due);
-        }
-    }
-
-    private static void is(String call, long due, long got) {
-        is(call, (Object) due, (Object) got);
-    }
-
-    /** The class of the exception itself, for one that the machine throws would be of a class below it. */
-    private static void fails(String call, Class<?> due, LongSupplier body) {
-        Object got;
-        try {
-            got = body.getAsLong();
-        } catch (RuntimeException e) {
-            got = e.getClass();
-        }
-        is(call, (Object) due, got);
-    }
-
-    private static void noIndex(String call, LongSupplier body) {
-        fails(call, IndexOutOfBoundsException.class, body);
-    }
-
-    private static void noArgument(String call, LongSupplier body) {
-        fails(call, IllegalArgumentException.class, body);
-    }
-
-    private static void noState(String call, LongSupplier body) {
-        fails(call, IllegalStateException.class, body);
-    }
-
-    private static int put(String text) {
-        int length = -1;
-        for (int start = 0; start < text.length(); start += 20) {
-            int[] words = new int[5];
-            for (int i = start; i < Math.min(text.length(), start + 20); i++) {
-                words[(i - start) / 4] |= (text.charAt(i) & 255) << (24 - 8 * ((i - start) % 4));
-            }
-            length = x.append(words[0], words[1], words[2], words[3], words[4]);
-        }
-        return length;
-    }
-
-    private static int come(String code, int kind, int size, int weight, int value) {
-        put(code);
-        return x.stone(kind, size, weight, value);
-    }
-
-    private static void comeMany(int count) {
-        for (int i = 0; i < count; i++) {
-            come(String.valueOf((char) ('a' + i)), 0, 1, 1, 100);
-        }
-    }
-
-    private static String written() {
-        StringBuilder text = new StringBuilder();
-        int signs = x.write();
-        for (int i = 0; i < signs; i++) {
-            text.append(x.writtenAt(i));
-        }
-        return text.toString();
-    }
-
+public final class PromiseTests extends Checks {
     private static void p1() {
         fresh();
         is("NONE", -1, Stonecabinet.NONE);
@@ -478,10 +397,6 @@ public final class PromiseTests {
         for (int[] b : bad) {
             noArgument("setDrawer", () -> x.setDrawer(b[0], b[1], b[2]));
         }
-    }
-
-    private static long partOf(int one, int other, boolean arePartedNow) {
-        return x.part(one, other, arePartedNow) ? 1 : 0;
     }
 
     private static void p20() {
@@ -1322,12 +1237,9 @@ public final class PromiseTests {
             () -> { p45(); p45older(); p45each(); p45what(); }, () -> p46(), () -> p47(), () -> p48(),
             () -> { p49(); apart(); }};
         for (int i = 0; i < tests.length; i++) {
-            promise = i + 1;
+            about = "promise " + (i + 1);
             tests[i].run();
         }
-        System.out.println(checked + " answers checked, " + wrong + " wrong");
-        if (wrong != 0) {
-            System.exit(1);
-        }
+        endTests();
     }
 }
