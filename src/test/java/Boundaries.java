@@ -75,12 +75,6 @@ abstract class Boundaries extends Checks {
         }
     }
 
-    static void drawersAre(int... due) {
-        for (int stone = 0; stone < due.length; stone++) {
-            is("drawer of " + stone, due[stone], x.stoneOf(stone, 4));
-        }
-    }
-
     static void scratchMany(int count) {
         for (int number = 0; number < count; number++) {
             is("scratch", number, x.scratch(0, 1));

@@ -18,13 +18,12 @@ public final class BoundaryTests extends Checks {
     /** The promises and the terms, each with what the document says there, without its signs for code. */
     private static Map<String, String> sections(String document) {
         Map<String, String> sections = new LinkedHashMap<>();
-        Matcher heads = Pattern.compile("(?m)^(?:## (What it is|Terms|Promise \\d+|Not promised).*|(\\d)\\. [A-Z]\\w+|(?:## .*))$")
-                .matcher(document);
+        Matcher heads = Pattern.compile("(?m)^(?:## ([^:\n]*).*|(\\d)\\. [A-Z]\\w+)$").matcher(document);
         String section = "";
         int start = 0;
         while (heads.find()) {
             sections.merge(section, document.substring(start, heads.start()), String::concat);
-            section = heads.group(2) != null ? "Terms " + heads.group(2) : heads.group(1) != null ? heads.group(1) : "";
+            section = heads.group(1) != null ? heads.group(1) : "Terms " + heads.group(2);
             start = heads.end();
         }
         sections.merge(section, document.substring(start), String::concat);
@@ -49,7 +48,8 @@ public final class BoundaryTests extends Checks {
             if (section.getKey().startsWith("Promise") || section.getKey().startsWith("Terms ")) {
                 about = section.getKey();
                 for (String sentence : sentences(section.getValue())) {
-                    is("'" + sentence + "' is quoted by a test", (Object) true, (Object) isQuoted(section.getKey(), sentence));
+                    boolean isQuoted = isQuoted(section.getKey(), sentence);
+                    is("'" + sentence + "' is quoted by a test", (Object) true, (Object) isQuoted);
                 }
             }
         }
@@ -60,7 +60,8 @@ public final class BoundaryTests extends Checks {
         List<String> sentences = new ArrayList<>();
         for (String line : text.split("\n")) {
             for (String sentence : line.trim().split("(?<=\\.) ")) {
-                boolean isNone = sentence.isEmpty() || sentence.equals("(A question.)") || line.startsWith("Ahead of the calls");
+                boolean isNone = sentence.isEmpty() || sentence.equals("(A question.)")
+                        || line.startsWith("Ahead of the calls");
                 if (!isNone) {
                     sentences.add(sentence);
                 }

@@ -30,8 +30,8 @@ final class CatalogueBoundaries extends Boundaries {
     }
 
     private static void grammar() {
-        test("Terms 7", "A catalogue is told as a text on the tape: text = { CODE NUMBER NUMBER NUMBER NUMBER \";\" }, "
-            + "the numbers being kind, size, weight and value", () -> {
+        test("Terms 7", "A catalogue is told as a text on the tape: text = { CODE NUMBER NUMBER NUMBER NUMBER \";\" }, the "
+            + "numbers being kind, size, weight and value", () -> {
                 good("", 0);
                 good("a 1 2 3 4;", 1);
                 good("b 1 2 3 4;c 1 2 3 4;d 1 2 3 4;", 3);
@@ -125,8 +125,8 @@ final class CatalogueBoundaries extends Boundaries {
     }
 
     private static void positions() {
-        test("Terms 7", "Reading stops at the first token that does not fit: it is no token (as is a longer run), "
-            + "the grammar does not allow it there, a NUMBER is out of range, or a CODE stood ahead in the text already.", () -> {
+        test("Terms 7", "Reading stops at the first token that does not fit: it is no token (as is a longer run), the grammar "
+            + "does not allow it there, a NUMBER is out of range, or a CODE stood ahead in the text already.", () -> {
                 come("z", 0, 1, 1, 0);
                 bad("a 0 1 1 0;aaaaa", 10);
                 bad("a 0 1 1 0;a 0 1 1 0;", 10);
@@ -203,16 +203,17 @@ final class CatalogueBoundaries extends Boundaries {
             good("a 5 9 99 10000;", 0);
             is("joined", 5, x.stoneOf(0, 0));
         });
-        test("Terms 7", "Joining takes each stone of the text whose code no stone has, in the order of codes (as texts)", () -> {
-            come("m", 0, 1, 1, 0);
-            good("zz 1 1 1 1;z 2 1 1 2;aaaa 3 1 1 3;ab 4 1 1 4;m 0 1 1 0;b 5 1 1 5;a 0 1 1 6;aa 1 1 1 7;", 7);
-            int[] values = {0, 6, 7, 3, 4, 5, 2, 1};
-            for (int stone = 0; stone < 8; stone++) {
-                is("value of " + stone, values[stone], x.stoneOf(stone, 3));
-            }
-        });
-        test("Terms 7", "of a stone that is there already, kind, size, weight and value become the greater one of both, "
-            + "each by itself", () -> {
+        test("Terms 7", "Joining takes each stone of the text whose code no stone has, in the order of codes (as "
+            + "texts)", () -> {
+                come("m", 0, 1, 1, 0);
+                good("zz 1 1 1 1;z 2 1 1 2;aaaa 3 1 1 3;ab 4 1 1 4;m 0 1 1 0;b 5 1 1 5;a 0 1 1 6;aa 1 1 1 7;", 7);
+                int[] values = {0, 6, 7, 3, 4, 5, 2, 1};
+                for (int stone = 0; stone < 8; stone++) {
+                    is("value of " + stone, values[stone], x.stoneOf(stone, 3));
+                }
+            });
+        test("Terms 7", "of a stone that is there already, kind, size, weight and value become the greater one of both, each "
+            + "by itself", () -> {
                 come("a", 2, 5, 50, 5000);
                 good("a 3 4 51 4999;", 0);
                 is("written", "a 3 5 51 5000;", written());
@@ -248,6 +249,7 @@ final class CatalogueBoundaries extends Boundaries {
             bad(entries(32) + "ga0 1 ", 300);
             bad(entries(32) + "ga0 1?", 299);
             bad(entries(32) + "a0 1 1", 294);
+            bad(entries(32) + "ea0 1 ", 294);
         });
         test("Terms 7", "or if a drawer would hold what it may not", () -> {
             come("a", 0, 4, 40, 0);
@@ -302,8 +304,9 @@ final class CatalogueBoundaries extends Boundaries {
             is("write without stones again", 0, x.write());
             noIndex("writtenAt: in place of what was written before", () -> x.writtenAt(0));
         });
-        test("Promise 44", "Returns a sign of what was written last. | `index`: index of a sign, from 0 | Returns the sign. | "
-            + "Throws `IndexOutOfBoundsException` if there is no such sign, or nothing was written", () -> {
+        test("Promise 44", "Returns a sign of what was written last. | `index`: index of a sign, from 0 | "
+            + "Returns the sign. | Throws `IndexOutOfBoundsException` if there is no such sign, or nothing was "
+            + "written", () -> {
                 numbers("writtenAt: nothing was written", 0, index -> x.writtenAt(index));
                 x.write();
                 numbers("writtenAt: nothing stands there", 0, index -> x.writtenAt(index));
@@ -321,8 +324,8 @@ final class CatalogueBoundaries extends Boundaries {
                 is("write", 162, x.write());
                 numbers("writtenAt", 162, index -> x.writtenAt(index));
             });
-        test("Terms 7", "The catalogue that is written has all stones in the order of codes, each as CODE, kind, size, weight and "
-            + "value, with a blank ahead of each number, and ; .", () -> {
+        test("Terms 7", "The catalogue that is written has all stones in the order of codes, each as CODE, kind, size, weight "
+            + "and value, with a blank ahead of each number, and ; .", () -> {
                 come("b", 0, 1, 1, 0);
                 come("aaab", 5, 9, 99, 10000);
                 come("aa", 1, 2, 10, 9);

@@ -87,6 +87,44 @@ abstract class Checks {
         return x.part(one, other, arePartedNow) ? 1 : 0;
     }
 
+    static void drawersAre(int... due) {
+        for (int stone = 0; stone < due.length; stone++) {
+            is("drawer of " + stone, due[stone], x.stoneOf(stone, 4));
+        }
+    }
+
+    /** The stones of the ring, in their order; none if there is no ring. */
+    static void ringIs(int... due) {
+        is("ring", due.length, x.ring());
+        for (int place = 0; place < due.length; place++) {
+            is("ringAt " + place, due[place], x.ringAt(place));
+        }
+        noIndex("ringAt", () -> x.ringAt(due.length));
+        noIndex("ringAt", () -> x.ringAt(-1));
+        noIndex("ringAt", () -> x.ringAt(MOST));
+    }
+
+    /** From which each offer gets (-1 if it is not in the plan), and how many rings that makes. */
+    static void planIs(int rings, int... due) {
+        int inPlan = 0;
+        for (int offer = 0; offer < due.length; offer++) {
+            is("getsFrom " + offer, due[offer], x.getsFrom(offer));
+            inPlan += due[offer] == -1 ? 0 : 1;
+        }
+        is("plan", inPlan, x.plan());
+        is("rings", rings, x.rings());
+        noIndex("getsFrom", () -> x.getsFrom(due.length));
+        noIndex("getsFrom", () -> x.getsFrom(-1));
+    }
+
+    /** A tape with which no stone can come, and the error position then. */
+    static void badCode(String text, int position) {
+        put(text);
+        noArgument("stone with the tape '" + text + "'", () -> x.stone(0, 1, 1, 0));
+        is("errorPosition of '" + text + "'", position, x.errorPosition());
+        is("the tape behind '" + text + "'", 0, x.clearTape());
+    }
+
     static void endTests() {
         System.out.println(checked + " answers checked, " + wrong + " wrong");
         if (wrong != 0) {

@@ -40,8 +40,8 @@ final class DrawerBoundaries extends Boundaries {
             comeAlike(1, 0, 9, 9);
             is("lay: just held", 0, x.lay(0, 0));
         });
-        test("Terms 3", "There are the drawers 0 to 3, each with a size and a weight that it holds "
-            + "(0 to 99 and 0 to 999, at first 20 and 200).", () -> {
+        test("Terms 3", "There are the drawers 0 to 3, each with a size and a weight that it holds (0 to 99 and 0 to 999, at "
+            + "first 20 and 200).", () -> {
                 come("a", 0, 9, 99, 0);
                 come("b", 0, 9, 99, 0);
                 come("c", 0, 2, 2, 0);
@@ -75,17 +75,18 @@ final class DrawerBoundaries extends Boundaries {
             is("part of the same", 0, partOf(5, 5, true));
             is("part of the same", 1, partOf(5, 5, false));
         });
-        test("Promise 20", "Tells that two kinds do not lie together, or that they may. | `arePartedNow`: whether they do not lie together | Returns whether they did not.", () -> {
-            for (int one = 0; one < 6; one++) {
-                for (int other = one; other < 6; other++) {
-                    is("part at first", 0, partOf(one, other, false));
-                    is("part of those that may", 0, partOf(one, other, true));
-                    is("part of those that may not, the other way round", 1, partOf(other, one, true));
-                    is("part of those that may not", 1, partOf(other, one, false));
-                    is("part of those that may again", 0, partOf(one, other, false));
+        test("Promise 20", "Tells that two kinds do not lie together, or that they may. | "
+            + "`arePartedNow`: whether they do not lie together | Returns whether they did not.", () -> {
+                for (int one = 0; one < 6; one++) {
+                    for (int other = one; other < 6; other++) {
+                        is("part at first", 0, partOf(one, other, false));
+                        is("part of those that may", 0, partOf(one, other, true));
+                        is("part of those that may not, the other way round", 1, partOf(other, one, true));
+                        is("part of those that may not", 1, partOf(other, one, false));
+                        is("part of those that may again", 0, partOf(one, other, false));
+                    }
                 }
-            }
-        });
+            });
         test("Promise 20", "Throws `IllegalStateException` if stones of them lie together", () -> {
             come("a", 0, 1, 1, 0);
             come("b", 5, 1, 1, 0);
@@ -165,27 +166,28 @@ final class DrawerBoundaries extends Boundaries {
             is("lies: the drawer that it left", 0, x.lies(0, 0));
             is("lay", 0, x.lay(1, 0));
         });
-        test("Promise 21", "Returns 0 if it lies so now; otherwise why it cannot be (1 to 3), and nothing is different.", () -> {
-            come("a", 0, 9, 99, 0);
-            come("b", 0, 9, 99, 0);
-            x.lay(0, 1);
-            x.lay(1, 2);
-            x.setDrawer(1, 9, 999);
-            is("the size", 1, x.lay(1, 1));
-            drawersAre(1, 2);
-            x.setDrawer(1, 99, 197);
-            is("the weight", 2, x.lay(1, 1));
-            drawersAre(1, 2);
-            x.setDrawer(1, 99, 198);
-            x.part(0, 0, true);
-            is("the kinds", 3, x.lay(1, 1));
-            drawersAre(1, 2);
-            x.part(0, 0, false);
-            is("lay", 0, x.lay(1, 1));
-            drawersAre(1, 1);
-        });
-        test("Terms 3", "A stone can be laid into a drawer if the sizes and the weights of all that lie in it then are at most "
-            + "what it holds, and no two of them are of kinds that do not lie together.", () -> {
+        test("Promise 21", "Returns 0 if it lies so now; otherwise why it cannot be (1 to 3), and nothing is "
+            + "different.", () -> {
+                come("a", 0, 9, 99, 0);
+                come("b", 0, 9, 99, 0);
+                x.lay(0, 1);
+                x.lay(1, 2);
+                x.setDrawer(1, 9, 999);
+                is("the size", 1, x.lay(1, 1));
+                drawersAre(1, 2);
+                x.setDrawer(1, 99, 197);
+                is("the weight", 2, x.lay(1, 1));
+                drawersAre(1, 2);
+                x.setDrawer(1, 99, 198);
+                x.part(0, 0, true);
+                is("the kinds", 3, x.lay(1, 1));
+                drawersAre(1, 2);
+                x.part(0, 0, false);
+                is("lay", 0, x.lay(1, 1));
+                drawersAre(1, 1);
+            });
+        test("Terms 3", "A stone can be laid into a drawer if the sizes and the weights of all that lie in it then are at "
+            + "most what it holds, and no two of them are of kinds that do not lie together.", () -> {
                 come("a", 0, 4, 40, 0);
                 come("b", 1, 5, 50, 0);
                 x.setDrawer(0, 9, 90);
@@ -234,8 +236,8 @@ final class DrawerBoundaries extends Boundaries {
             range("lies, drawer", 0, 3, drawer -> x.lies(drawer, 0));
             range("lies, what", 0, 2, what -> x.lies(0, what));
         });
-        test("Promise 22", "Tells what lies in a drawer. | `what`: 0 how many stones, 1 their sizes, 2 their weights, together | Returns what is asked.",
-            () -> {
+        test("Promise 22", "Tells what lies in a drawer. | `what`: 0 how many stones, 1 their sizes, 2 their weights, "
+            + "together | Returns what is asked.", () -> {
                 for (int what = 0; what < 3; what++) {
                     is("lies without stones", 0, x.lies(0, what));
                 }
@@ -303,14 +305,15 @@ final class DrawerBoundaries extends Boundaries {
             is("layAll: nearest", 0, x.layAll(true));
             is("layAll: first", 10, x.layAll(false));
         });
-        test("Promise 23", "Makes the first laying, or the nearest one. | `isNearest`: whether the nearest one is made", () -> {
-            comeMany(2);
-            x.lay(1, 1);
-            is("layAll: nearest", 0, x.layAll(true));
-            drawersAre(0, 1);
-            is("layAll: first", 1, x.layAll(false));
-            drawersAre(0, 0);
-        });
+        test("Promise 23", "Makes the first laying, or the nearest one. | `isNearest`: whether the nearest one is "
+            + "made", () -> {
+                comeMany(2);
+                x.lay(1, 1);
+                is("layAll: nearest", 0, x.layAll(true));
+                drawersAre(0, 1);
+                is("layAll: first", 1, x.layAll(false));
+                drawersAre(0, 0);
+            });
         test("Terms 3", "A laying gives each stone a drawer, so that all lie as they may.", () -> {
             come("a", 0, 9, 1, 0);
             come("b", 1, 9, 1, 0);
@@ -325,8 +328,8 @@ final class DrawerBoundaries extends Boundaries {
             is("layAll", 0, x.layAll(true));
             drawersAre(0, 1, 0, 2);
         });
-        test("Terms 3", "The first laying is, of all, the one in which stone 0 has the least drawer, of these the one in which "
-            + "stone 1 has, and so on.", () -> {
+        test("Terms 3", "The first laying is, of all, the one in which stone 0 has the least drawer, of these the one in "
+            + "which stone 1 has, and so on.", () -> {
                 comeAlike(8, 0, 9, 1);
                 is("layAll: as many as can be", 0, x.layAll(false));
                 drawersAre(0, 0, 1, 1, 2, 2, 3, 3);
@@ -357,24 +360,25 @@ final class DrawerBoundaries extends Boundaries {
             x.setDrawer(3, 0, 0);
             is("layAll: 0, 1 and 3 may not lie in 2 drawers", -1, x.layAll(false));
         });
-        test("Terms 3", "The nearest laying is the one in which the fewest stones that lie in a drawer have another one", () -> {
-            comeMany(3);
-            x.lay(0, 3);
-            x.lay(1, 3);
-            x.setDrawer(0, 0, 0);
-            come("d", 1, 9, 99, 0);
-            x.lay(3, 2);
-            is("layAll: none needs another one", 0, x.layAll(true));
-            drawersAre(3, 3, 1, 2);
-            x.lay(2, -1);
-            x.setDrawer(1, 0, 0);
-            x.setDrawer(2, 9, 200);
-            x.setDrawer(3, 2, 200);
-            is("layAll: the one that lies in none has no room", -1, x.layAll(true));
-            x.setDrawer(2, 10, 200);
-            is("layAll: it has room, and none leaves", 0, x.layAll(true));
-            drawersAre(3, 3, 2, 2);
-        });
+        test("Terms 3", "The nearest laying is the one in which the fewest stones that lie in a drawer have another "
+            + "one", () -> {
+                comeMany(3);
+                x.lay(0, 3);
+                x.lay(1, 3);
+                x.setDrawer(0, 0, 0);
+                come("d", 1, 9, 99, 0);
+                x.lay(3, 2);
+                is("layAll: none needs another one", 0, x.layAll(true));
+                drawersAre(3, 3, 1, 2);
+                x.lay(2, -1);
+                x.setDrawer(1, 0, 0);
+                x.setDrawer(2, 9, 200);
+                x.setDrawer(3, 2, 200);
+                is("layAll: the one that lies in none has no room", -1, x.layAll(true));
+                x.setDrawer(2, 10, 200);
+                is("layAll: it has room, and none leaves", 0, x.layAll(true));
+                drawersAre(3, 3, 2, 2);
+            });
         test("Terms 3", "of several the first one", () -> {
             come("a", 0, 5, 1, 0);
             come("b", 0, 5, 1, 0);

@@ -12,17 +12,6 @@ final class ExchangeBoundaries extends Boundaries {
         }
     }
 
-    /** From which each offer gets (-1 if it is not in the plan), and how many rings that makes. */
-    private static void planIs(int rings, int... due) {
-        int inPlan = 0;
-        for (int offer = 0; offer < due.length; offer++) {
-            is("getsFrom " + offer, due[offer], x.getsFrom(offer));
-            inPlan += due[offer] == -1 ? 0 : 1;
-        }
-        is("plan", inPlan, x.plan());
-        is("rings", rings, x.rings());
-    }
-
     private static void offers() {
         test("Promise 37", "`museum`: 0 to 4 | `gives`: 0 to 5, a kind | `wants`: 0 to 5, another kind | "
             + "Throws `IllegalArgumentException` if a number is out of range", () -> {
@@ -55,8 +44,8 @@ final class ExchangeBoundaries extends Boundaries {
             is("offer: the same again", 1, x.offer(4, 5, 0));
             is("offer", 2, x.offer(0, 0, 5));
         });
-        test("Terms 6", "At most 8 offers are told, numbered from 0, each of a museum (0 to 4): "
-            + "it gives a double of a kind and wants one of another kind (0 to 5).", () -> {
+        test("Terms 6", "At most 8 offers are told, numbered from 0, each of a museum (0 to 4): it gives a double of a kind "
+            + "and wants one of another kind (0 to 5).", () -> {
                 for (int number = 0; number < 8; number++) {
                     is("offer", number, x.offer((number + number / 5) % 5, number % 6, (number + 1) % 6));
                 }
@@ -83,31 +72,37 @@ final class ExchangeBoundaries extends Boundaries {
             x.offer(1, 1, 0);
             is("plan of two offers", 2, x.plan());
             x.clearOffers();
+            for (int number = 0; number < 8; number++) {
+                x.offer(3, number % 2, 1 - number % 2);
+            }
+            planIs(0, -1, -1, -1, -1, -1, -1, -1, -1);
+            x.clearOffers();
             offerMany(8);
             is("plan of 8 offers", 8, x.plan());
         });
-        test("Promise 40", "`offer`: number of an offer | Throws `IndexOutOfBoundsException` if there is no such offer", () -> {
-            numbers("getsFrom without offers", 0, offer -> x.getsFrom(offer));
-            x.offer(0, 0, 1);
-            numbers("getsFrom of one offer", 1, offer -> x.getsFrom(offer));
-            x.clearOffers();
-            offerMany(8);
-            numbers("getsFrom of 8 offers", 8, offer -> x.getsFrom(offer));
-            x.undo();
-            numbers("getsFrom of 7 offers", 7, offer -> x.getsFrom(offer));
-        });
-        test("Promise 40", "Returns the offer from which an offer gets a stone in the best plan. | Returns the number of the other one; NONE if it is not in the plan.", () -> {
-            x.offer(2, 3, 4);
-            is("getsFrom", -1, x.getsFrom(0));
-            x.offer(3, 4, 3);
-            is("getsFrom", 1, x.getsFrom(0));
-            is("getsFrom", 0, x.getsFrom(1));
-            x.offer(4, 4, 3);
-            is("getsFrom", -1, x.getsFrom(2));
-        });
-        test("Promise 41", "Counts the rings of the best plan. | "
-            + "Returns how many there are: rows in which each offer gets from the next one, and the last one from the first one.",
-            () -> {
+        test("Promise 40", "`offer`: number of an offer | Throws `IndexOutOfBoundsException` if there is no such "
+            + "offer", () -> {
+                numbers("getsFrom without offers", 0, offer -> x.getsFrom(offer));
+                x.offer(0, 0, 1);
+                numbers("getsFrom of one offer", 1, offer -> x.getsFrom(offer));
+                x.clearOffers();
+                offerMany(8);
+                numbers("getsFrom of 8 offers", 8, offer -> x.getsFrom(offer));
+                x.undo();
+                numbers("getsFrom of 7 offers", 7, offer -> x.getsFrom(offer));
+            });
+        test("Promise 40", "Returns the offer from which an offer gets a stone in the best plan. | "
+            + "Returns the number of the other one; NONE if it is not in the plan.", () -> {
+                x.offer(2, 3, 4);
+                is("getsFrom", -1, x.getsFrom(0));
+                x.offer(3, 4, 3);
+                is("getsFrom", 1, x.getsFrom(0));
+                is("getsFrom", 0, x.getsFrom(1));
+                x.offer(4, 4, 3);
+                is("getsFrom", -1, x.getsFrom(2));
+            });
+        test("Promise 41", "Counts the rings of the best plan. | Returns how many there are: rows in which each offer gets "
+            + "from the next one, and the last one from the first one.", () -> {
                 is("rings without offers", 0, x.rings());
                 x.offer(0, 0, 1);
                 is("rings of one offer", 0, x.rings());

@@ -24,8 +24,8 @@ final class HandBoundaries extends Boundaries {
             numbers("tell", 10, stone -> x.tell(stone, 20240101, 0));
             noIndex("tell: no stone ahead of no date and no hand", () -> x.tell(10, 0, 7));
         });
-        test("Promise 24", "`date`: a date | `hand`: 0 to 6 | Throws `IllegalArgumentException` if date or hand is out of range",
-            () -> {
+        test("Promise 24", "`date`: a date | `hand`: 0 to 6 | Throws `IllegalArgumentException` if date or hand is out of "
+            + "range", () -> {
                 comeMany(1);
                 dates("tell", date -> x.tell(0, date, 0));
                 range("tell, hand", 0, 6, hand -> x.tell(0, 20240101, hand));
@@ -64,8 +64,8 @@ final class HandBoundaries extends Boundaries {
     }
 
     private static void takingBack() {
-        test("Promise 25", "`number`: number of what was told | Throws `IndexOutOfBoundsException` if there is no such number",
-            () -> {
+        test("Promise 25", "`number`: number of what was told | Throws `IndexOutOfBoundsException` if there is no such "
+            + "number", () -> {
                 comeMany(1);
                 numbers("takeBack of none", 0, number -> x.takeBack(number));
                 tellMany(60);
@@ -145,19 +145,20 @@ final class HandBoundaries extends Boundaries {
                 range("handOn, time", 0, 2, time -> x.handOn(0, 20240101, time));
                 dates("handOn", date -> x.handOn(0, date, 2));
             });
-        test("Promise 27", "Returns the hand in which a stone is on a day, as it was known at a time. | Returns the hand.", () -> {
-            comeMany(2);
-            x.tell(0, 19000101, 1);
-            x.tell(0, 21991231, 2);
-            x.takeBack(0);
-            int[][] due = {{6, 6, 6}, {1, 1, 1}, {1, 1, 2}, {6, 6, 2}};
-            for (int time = 0; time < 4; time++) {
-                is("handOn the first day", due[time][0], x.handOn(0, 19000101, time));
-                is("handOn the last day but one", due[time][1], x.handOn(0, 21991230, time));
-                is("handOn the last day", due[time][2], x.handOn(0, 21991231, time));
-                is("handOn of the other stone", 6, x.handOn(1, 21991231, time));
-            }
-        });
+        test("Promise 27", "Returns the hand in which a stone is on a day, as it was known at a time. | "
+            + "Returns the hand.", () -> {
+                comeMany(2);
+                x.tell(0, 19000101, 1);
+                x.tell(0, 21991231, 2);
+                x.takeBack(0);
+                int[][] due = {{6, 6, 6}, {1, 1, 1}, {1, 1, 2}, {6, 6, 2}};
+                for (int time = 0; time < 4; time++) {
+                    is("handOn the first day", due[time][0], x.handOn(0, 19000101, time));
+                    is("handOn the last day but one", due[time][1], x.handOn(0, 21991230, time));
+                    is("handOn the last day", due[time][2], x.handOn(0, 21991231, time));
+                    is("handOn of the other stone", 6, x.handOn(1, 21991231, time));
+                }
+            });
         test("Terms 4", "Hands are numbered from 0 to 6; 0 is the museum.", () -> {
             comeMany(1);
             for (int hand = 0; hand < 7; hand++) {
@@ -166,8 +167,8 @@ final class HandBoundaries extends Boundaries {
                 is("away", hand == 0 ? 0 : 1, x.away(0, 20240101, 20240101));
             }
         });
-        test("Terms 4", "It is told that a stone is in a hand from a day on "
-            + "(until the next day from which on another one, or the same, is told).", () -> {
+        test("Terms 4", "It is told that a stone is in a hand from a day on (until the next day from which on another one, or "
+            + "the same, is told).", () -> {
                 comeMany(1);
                 x.tell(0, 20240229, 3);
                 x.tell(0, 20240301, 4);
@@ -211,18 +212,19 @@ final class HandBoundaries extends Boundaries {
             x.takeBack(1);
             is("handOn: none is left", 6, x.handOn(0, 20240101, 7));
         });
-        test("Terms 4", "What was known at a time is by what was told up to this time, less what was taken back up to it.", () -> {
-            comeMany(1);
-            x.tell(0, 20240101, 1);
-            x.takeBack(0);
-            x.tell(0, 20240101, 2);
-            x.takeBack(1);
-            int[] due = {6, 1, 6, 2, 6};
-            for (int time = 0; time < 5; time++) {
-                is("handOn at " + time, due[time], x.handOn(0, 20240101, time));
-                is("stays at " + time, due[time] == 6 ? 1 : 2, x.stays(0, time));
-            }
-        });
+        test("Terms 4", "What was known at a time is by what was told up to this time, less what was taken back up to "
+            + "it.", () -> {
+                comeMany(1);
+                x.tell(0, 20240101, 1);
+                x.takeBack(0);
+                x.tell(0, 20240101, 2);
+                x.takeBack(1);
+                int[] due = {6, 1, 6, 2, 6};
+                for (int time = 0; time < 5; time++) {
+                    is("handOn at " + time, due[time], x.handOn(0, 20240101, time));
+                    is("stays at " + time, due[time] == 6 ? 1 : 2, x.stays(0, time));
+                }
+            });
     }
 
     private static void stays() {
@@ -232,8 +234,8 @@ final class HandBoundaries extends Boundaries {
             numbers("stays", 10, stone -> x.stays(stone, 0));
             noIndex("stays: no stone ahead of no time", () -> x.stays(10, 1));
         });
-        test("Promise 28", "`time`: 0 to the time, as of which is asked | "
-            + "Throws `IllegalArgumentException` if time is out of range", () -> {
+        test("Promise 28", "`time`: 0 to the time, as of which is asked | Throws `IllegalArgumentException` if time is out of "
+            + "range", () -> {
                 comeMany(1);
                 range("stays", 0, 0, time -> x.stays(0, time));
                 tellMany(60);
@@ -272,8 +274,9 @@ final class HandBoundaries extends Boundaries {
             comeMany(1);
             range("stayAt, what", 0, 2, what -> x.stayAt(0, 0, what));
         });
-        test("Promise 29", "Tells about a stay of a stone, as it is known now. | `what`: 0 its hand, 1 the date of its first day (NONE of the first stay), "
-            + "2 the date of its last day (NONE of the last stay; it can be 18991231) | Returns what is asked.", () -> {
+        test("Promise 29", "Tells about a stay of a stone, as it is known now. | "
+            + "`what`: 0 its hand, 1 the date of its first day (NONE of the first stay), 2 the date of its last day (NONE of "
+            + "the last stay; it can be 18991231) | Returns what is asked.", () -> {
                 comeMany(1);
                 stayIs(0, 6, -1, -1);
                 x.tell(0, 19000101, 1);
@@ -299,8 +302,8 @@ final class HandBoundaries extends Boundaries {
                 x.undo();
             }
         });
-        test("Terms 4", "A stay of a stone is a stretch of days in one hand, as long as can be "
-            + "(what is told again of the same hand does not part it).", () -> {
+        test("Terms 4", "A stay of a stone is a stretch of days in one hand, as long as can be (what is told again of the "
+            + "same hand does not part it).", () -> {
                 comeMany(1);
                 x.tell(0, 20240101, 6);
                 is("stays: the hand 6 again", 1, x.stays(0, 1));
@@ -360,8 +363,8 @@ final class HandBoundaries extends Boundaries {
         test("Promise 30", "`from`: a date | `to`: a date not ahead of it | "
             + "Throws `IllegalArgumentException` if one is no date in its range, or to is ahead of from",
             () -> dateRows("away", (stone, from, to) -> x.away(stone, from, to)));
-        test("Promise 30", "Counts the days on which a stone is not in the museum, from a date to a date, as it is known now. | "
-            + "Returns how many there are.", () -> {
+        test("Promise 30", "Counts the days on which a stone is not in the museum, from a date to a date, as it is known now. "
+            + "| Returns how many there are.", () -> {
                 comeMany(1);
                 is("away all days", 109573, x.away(0, 19000101, 21991231));
                 is("away on one day", 1, x.away(0, 20240101, 20240101));
@@ -409,14 +412,15 @@ final class HandBoundaries extends Boundaries {
             x.takeBack(2);
             is("fee: as it is known now", 100, x.fee(0, 21991230, 21991231));
         });
-        test("Terms 4", "The fee of a stone, from a day to a day (both with it), is the sum, over these days, of its value times "
-            + "the number of the hand in which it is (0 for the hands 0 and 6)", () -> {
+        test("Terms 4", "The fee of a stone, from a day to a day (both with it), is the sum, over these days, of its value "
+            + "times the number of the hand in which it is (0 for the hands 0 and 6)", () -> {
                 come("a", 0, 1, 1, 1000);
                 for (int hand = 0; hand < 7; hand++) {
                     x.tell(0, 20240101 + hand, hand);
                 }
                 for (int hand = 0; hand < 7; hand++) {
-                    is("fee of one day in the hand " + hand, hand == 6 ? 0 : hand, x.fee(0, 20240101 + hand, 20240101 + hand));
+                    int date = 20240101 + hand;
+                    is("fee of one day in the hand " + hand, hand == 6 ? 0 : hand, x.fee(0, date, date));
                 }
                 is("fee of all days", 15, x.fee(0, 20230101, 20250101));
                 is("fee: both ends are with it", 5, x.fee(0, 20240103, 20240104));
@@ -435,16 +439,16 @@ final class HandBoundaries extends Boundaries {
     }
 
     private static void inHands() {
-        test("Promise 32", "`hand`: 0 to 6 | `date`: a date | "
-            + "Throws `IllegalArgumentException` if hand or date is out of range", () -> {
+        test("Promise 32", "`hand`: 0 to 6 | `date`: a date | Throws `IllegalArgumentException` if hand or date is out of "
+            + "range", () -> {
                 range("inHand without stones", 0, 6, hand -> x.inHand(hand, 20240101));
                 dates("inHand without stones", date -> x.inHand(6, date));
                 comeMany(1);
                 range("inHand", 0, 6, hand -> x.inHand(hand, 20240101));
                 dates("inHand", date -> x.inHand(0, date));
             });
-        test("Promise 32", "Counts the stones that are in a hand on a day, as it is known now. | Returns how many there are.",
-            () -> {
+        test("Promise 32", "Counts the stones that are in a hand on a day, as it is known now. | "
+            + "Returns how many there are.", () -> {
                 for (int hand = 0; hand < 7; hand++) {
                     is("inHand without stones", 0, x.inHand(hand, 20240101));
                 }
@@ -463,8 +467,8 @@ final class HandBoundaries extends Boundaries {
     }
 
     private static void dates() {
-        test("Terms 4", "Days are told as dates from 19000101 to 21991231: "
-            + "10000 times the year plus 100 times the month plus the day.", () -> {
+        test("Terms 4", "Days are told as dates from 19000101 to 21991231: 10000 times the year plus 100 times the month plus "
+            + "the day.", () -> {
                 comeMany(1);
                 int[] lengths = {31, 28, 31, 30, 31, 30, 31, 31, 30, 31, 30, 31};
                 for (int month = 1; month <= 12; month++) {

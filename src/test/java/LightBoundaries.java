@@ -36,6 +36,14 @@ final class LightBoundaries extends Boundaries {
             x.show(0, 20231231, 2, 7);
             noState("setLight: 7 in each of two years", () -> x.setLight(0, 6));
             is("setLight: never 14 in one", 5000, x.setLight(0, 7));
+            fresh();
+            comeMany(2);
+            x.show(0, 21991231, 1, 9);
+            noState("setLight: 9 in the last year", () -> x.setLight(0, 8));
+            is("setLight", 5000, x.setLight(0, 9));
+            x.show(1, 19000101, 1, 9);
+            noState("setLight: 9 in the first year", () -> x.setLight(1, 8));
+            is("setLight", 5000, x.setLight(1, 9));
         });
         test("Promise 33", "Sets how much light a stone may have in a year. | Returns how much it might have.", () -> {
             comeMany(2);
@@ -90,8 +98,8 @@ final class LightBoundaries extends Boundaries {
             is("show", 4, x.show(0, 21981128, 399, 1));
             noArgument("show: behind the last day, and too much light", () -> x.show(0, 21991231, 400, 1000));
         });
-        test("Promise 34", "Throws `IllegalStateException` if 20 are told, or it would have more light in a year than it may",
-            () -> {
+        test("Promise 34", "Throws `IllegalStateException` if 20 are told, or it would have more light in a year than it "
+            + "may", () -> {
                 comeMany(2);
                 for (int number = 0; number < 20; number++) {
                     is("show", number, x.show(number % 2, 20240101, 1, 1));
@@ -134,8 +142,8 @@ final class LightBoundaries extends Boundaries {
             is("show of another stone", 2, x.show(1, 20240105, 1, 1));
             is("light", 5000, x.light(0, 2024));
         });
-        test("Terms 5", "It can be shown from a date on, so many days (1 to 400), with so much light on each of them (1 to 1000)",
-            () -> {
+        test("Terms 5", "It can be shown from a date on, so many days (1 to 400), with so much light on each of them (1 to "
+            + "1000)", () -> {
                 comeMany(1);
                 is("show: the least", 0, x.show(0, 20240101, 1, 1));
                 is("light", 1, x.light(0, 2024));
@@ -190,8 +198,8 @@ final class LightBoundaries extends Boundaries {
             numbers("mostDays", 10, stone -> x.mostDays(stone, 20240101, 1));
             noIndex("mostDays: no stone ahead of all that is out of range", () -> x.mostDays(10, 0, 0));
         });
-        test("Promise 36", "`date`: a date | `light`: 1 to 1000 | "
-            + "Throws `IllegalArgumentException` if a number is out of range", () -> {
+        test("Promise 36", "`date`: a date | `light`: 1 to 1000 | Throws `IllegalArgumentException` if a number is out of "
+            + "range", () -> {
                 comeMany(1);
                 dates("mostDays", date -> x.mostDays(0, date, 1));
                 range("mostDays, light", 1, 1000, light -> x.mostDays(0, 20240101, light));
@@ -203,7 +211,9 @@ final class LightBoundaries extends Boundaries {
             is("mostDays: never more than 400", 400, x.mostDays(0, 20240101, 250));
             x.setLight(0, 366);
             is("mostDays: the whole leap year, and more", 400, x.mostDays(0, 20240101, 1));
+            is("mostDays: the whole leap year, and more on both sides", 400, x.mostDays(0, 20231231, 1));
             x.setLight(0, 365);
+            is("mostDays: a day, and one less than the leap year", 366, x.mostDays(0, 20231231, 1));
             is("mostDays: one less than the leap year", 365, x.mostDays(0, 20240101, 1));
             is("mostDays: the whole year, and more", 400, x.mostDays(0, 20230101, 1));
             x.setLight(0, 364);
@@ -228,8 +238,8 @@ final class LightBoundaries extends Boundaries {
             x.setLight(0, 0);
             is("mostDays", 0, x.mostDays(0, 21991231, 1));
         });
-        test("Promise 36", "Returns the most days that a stone can be shown from a date on, with so much light on each of them.",
-            () -> {
+        test("Promise 36", "Returns the most days that a stone can be shown from a date on, with so much light on each of "
+            + "them.", () -> {
                 comeMany(2);
                 x.show(0, 20241201, 5, 999);
                 is("mostDays: 5 are left of this year", 5, x.mostDays(0, 20240101, 1));

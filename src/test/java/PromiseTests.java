@@ -71,15 +71,6 @@ public final class PromiseTests extends Checks {
         is("errorPosition after undo", 3, x.errorPosition());
     }
 
-    private static void badCode(String text, int position) {
-        if (!text.isEmpty()) {
-            put(text);
-        }
-        noArgument("stone " + text, () -> x.stone(0, 1, 1, 0));
-        is("errorPosition of " + text, position, x.errorPosition());
-        is("tape is empty", 0, x.clearTape());
-    }
-
     private static void badNumbers(int kind, int size, int weight, int value) {
         put("a1");
         noArgument("stone", () -> x.stone(kind, size, weight, value));
@@ -189,16 +180,6 @@ public final class PromiseTests extends Checks {
         noIndex("unscratch", () -> x.unscratch(-1));
         is("unscratch", 0, x.unscratch(0));
         noIndex("unscratch", () -> x.unscratch(0));
-    }
-
-    private static void ringIs(int... due) {
-        is("ring", due.length, x.ring());
-        for (int i = 0; i < due.length; i++) {
-            is("ringAt " + i, due[i], x.ringAt(i));
-        }
-        noIndex("ringAt", () -> x.ringAt(due.length));
-        noIndex("ringAt", () -> x.ringAt(-1));
-        noIndex("ringAt", () -> x.ringAt(MOST));
     }
 
     private static void p10and11() {
@@ -476,12 +457,6 @@ public final class PromiseTests extends Checks {
         noArgument("lies", () -> x.lies(-1, 0));
         noArgument("lies", () -> x.lies(0, 3));
         noArgument("lies", () -> x.lies(0, -1));
-    }
-
-    private static void drawersAre(int... due) {
-        for (int i = 0; i < due.length; i++) {
-            is("drawer of " + i, due[i], x.stoneOf(i, 4));
-        }
     }
 
     private static void p23() {
@@ -892,18 +867,6 @@ public final class PromiseTests extends Checks {
         is("plan", 2, x.plan());
         x.clearOffers();
         is("offer", 0, x.offer(0, 0, 1));
-    }
-
-    private static void planIs(int rings, int... due) {
-        int count = 0;
-        for (int offer = 0; offer < due.length; offer++) {
-            is("getsFrom " + offer, due[offer], x.getsFrom(offer));
-            count += due[offer] == -1 ? 0 : 1;
-        }
-        is("plan", count, x.plan());
-        is("rings", rings, x.rings());
-        noIndex("getsFrom", () -> x.getsFrom(due.length));
-        noIndex("getsFrom", () -> x.getsFrom(-1));
     }
 
     private static void p39to41() {

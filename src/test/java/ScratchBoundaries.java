@@ -70,8 +70,8 @@ final class ScratchBoundaries extends Boundaries {
             is("unscratch", 0, x.unscratch(0));
             is("orders", 2, x.orders());
         });
-        test("Promise 9", "`number`: number of what was told | Throws `IndexOutOfBoundsException` if there is no such number",
-            () -> {
+        test("Promise 9", "`number`: number of what was told | Throws `IndexOutOfBoundsException` if there is no such "
+            + "number", () -> {
                 comeMany(2);
                 numbers("unscratch of none", 0, number -> x.unscratch(number));
                 scratchMany(40);
@@ -120,13 +120,6 @@ final class ScratchBoundaries extends Boundaries {
             is("that ahead of it has the number 37", 37, x.unscratch(37));
             is("orders", 3, x.orders());
         });
-    }
-
-    private static void ringIs(int... due) {
-        is("ring", due.length, x.ring());
-        for (int place = 0; place < due.length; place++) {
-            is("ringAt " + place, due[place], x.ringAt(place));
-        }
     }
 
     private static void rings() {
@@ -354,6 +347,11 @@ final class ScratchBoundaries extends Boundaries {
                 shareIs(9, 5, 3, 4);
                 chain(2, 5);
                 shareIs(9, 5, 9, 10);
+                fresh();
+                comeMany(3);
+                chain(0, 1);
+                shareIs(0, 2, 2, 3);
+                shareIs(2, 0, 1, 3);
             });
         test("Promise 16", "0 and 1 if no order fits", () -> {
             comeMany(3);
@@ -400,8 +398,8 @@ final class ScratchBoundaries extends Boundaries {
                 // Of 3 orders 2 is ahead of 0 in 2, and behind 1 in 2.
                 testIs(2, 2);
             });
-        test("Terms 2", "The next test is the one with the least worth, of several that with the least a, then the least b.",
-            () -> {
+        test("Terms 2", "The next test is the one with the least worth, of several that with the least a, then the least "
+            + "b.", () -> {
                 comeMany(4);
                 testIs(1, 12);
                 chain(0, 1);
@@ -417,8 +415,8 @@ final class ScratchBoundaries extends Boundaries {
     }
 
     private static void firstOrder() {
-        test("Promise 18", "`rank`: its rank | "
-            + "Throws `IndexOutOfBoundsException` if there is no such rank, or no order fits", () -> {
+        test("Promise 18", "`rank`: its rank | Throws `IndexOutOfBoundsException` if there is no such rank, or no order "
+            + "fits", () -> {
                 numbers("orderAt without stones", 0, rank -> x.orderAt(rank));
                 comeMany(10);
                 numbers("orderAt", 10, rank -> x.orderAt(rank));

@@ -46,8 +46,8 @@ final class TapeBoundaries extends Boundaries {
     }
 
     private static void tape() {
-        test("Promise 2", "the four bytes of each parameter, the most significant byte first, in the order of the parameters",
-            () -> {
+        test("Promise 2", "the four bytes of each parameter, the most significant byte first, in the order of the "
+            + "parameters", () -> {
                 is("append", 20, x.append(0x61203420, 0x35203620, 0x373b6220, 0x30203120, 0x3220333b));
                 is("join", 2, x.join());
                 is("written", "a 4 5 6 7;b 0 1 2 3;", written());
@@ -120,16 +120,9 @@ final class TapeBoundaries extends Boundaries {
         });
     }
 
-    private static void badCode(String text, int position) {
-        put(text);
-        noArgument("stone with the tape '" + text + "'", () -> x.stone(0, 1, 1, 0));
-        is("errorPosition of '" + text + "'", position, x.errorPosition());
-        is("the tape behind '" + text + "'", 0, x.clearTape());
-    }
-
     private static void codes() {
-        test("Promise 5", "or the tape is no code (the error position is the first byte that does not fit, or the length)",
-            () -> {
+        test("Promise 5", "or the tape is no code (the error position is the first byte that does not fit, or the "
+            + "length)", () -> {
                 badCode("", 0);
                 badCode("abcde", 4);
                 badCode("abcdefghij", 4);
@@ -184,8 +177,8 @@ final class TapeBoundaries extends Boundaries {
 
     private static void stones() {
         test("Promise 5", "`kind`: 0 to 5 | `size`: 1 to 9 | `weight`: 1 to 99 | `value`: 0 to 10000 | "
-            + "Throws `IllegalArgumentException` if a number is out of range "
-            + "(the tape is emptied, too; the error position is NONE then)", () -> {
+            + "Throws `IllegalArgumentException` if a number is out of range (the tape is emptied, too; the error position is "
+            + "NONE then)", () -> {
                 int[] next = {0};
                 range("kind", 0, 5, kind -> stoneOfNumbers("" + (char) ('a' + next[0]++), kind, 1, 1, 0));
                 range("size", 1, 9, size -> stoneOfNumbers("" + (char) ('a' + next[0]++), 0, size, 1, 0));
@@ -225,8 +218,8 @@ final class TapeBoundaries extends Boundaries {
             is("stone", 1, come("fel", 0, 1, 1, 0));
             is("written", "fel 0 1 1 0;qu 5 9 99 10000;", written());
         });
-        test("Terms 1", "There are at most 10 stones, numbered from 0 as they come. | a kind (0 to 5), a size (1 to 9), "
-            + "a weight (1 to 99) and a value (0 to 10000)", () -> {
+        test("Terms 1", "There are at most 10 stones, numbered from 0 as they come. | "
+            + "a kind (0 to 5), a size (1 to 9), a weight (1 to 99) and a value (0 to 10000)", () -> {
                 for (int i = 0; i < 10; i++) {
                     is("stone", i, come("" + (char) ('z' - i), i % 2 * 5, 1 + i % 2 * 8, 1 + i % 2 * 98, i % 2 * 10000));
                 }
@@ -278,8 +271,8 @@ final class TapeBoundaries extends Boundaries {
             comeMany(1);
             range("stoneOf", 0, 5, what -> x.stoneOf(0, what));
         });
-        test("Promise 7", "Tells about a stone. | `what`: 0 its kind, 1 its size, 2 its weight, 3 its value, 4 its drawer or NONE, "
-            + "5 its place in the order of codes | Returns what is asked.", () -> {
+        test("Promise 7", "Tells about a stone. | `what`: 0 its kind, 1 its size, 2 its weight, 3 its value, 4 its drawer or "
+            + "NONE, 5 its place in the order of codes | Returns what is asked.", () -> {
                 come("b", 5, 9, 99, 10000);
                 come("aaaa", 0, 1, 1, 0);
                 come("bb", 1, 2, 3, 4);

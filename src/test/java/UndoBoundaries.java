@@ -52,7 +52,8 @@ final class UndoBoundaries extends Boundaries {
                 all.append(' ').append(x.stays(stone, time)).append(x.handOn(stone, 20240115, time));
             }
             for (int stay = 0; stay < x.stays(stone, x.time()); stay++) {
-                all.append(' ').append(x.stayAt(stone, stay, 0)).append(x.stayAt(stone, stay, 1)).append(x.stayAt(stone, stay, 2));
+                all.append(' ').append(x.stayAt(stone, stay, 0)).append(x.stayAt(stone, stay, 1))
+                    .append(x.stayAt(stone, stay, 2));
             }
         }
         all.append('\n');
@@ -94,9 +95,10 @@ final class UndoBoundaries extends Boundaries {
         for (int stone = 0; stone < x.stones(); stone++) {
             all.append(' ').append(x.setLight(stone, 100000));
         }
-        all.append(orThrown(() -> x.scratch(0, 1))).append(orThrown(() -> x.unscratch(1))).append(orThrown(() -> x.takeBack(0)))
-            .append(orThrown(() -> x.takeBack(1))).append(orThrown(() -> x.tell(0, 20240101, 1)))
-            .append(orThrown(() -> x.show(0, 20240101, 1, 1))).append(orThrown(() -> x.offer(0, 0, 1)));
+        all.append(orThrown(() -> x.scratch(0, 1))).append(orThrown(() -> x.unscratch(1)))
+            .append(orThrown(() -> x.takeBack(0))).append(orThrown(() -> x.takeBack(1)))
+            .append(orThrown(() -> x.tell(0, 20240101, 1))).append(orThrown(() -> x.show(0, 20240101, 1, 1)))
+            .append(orThrown(() -> x.offer(0, 0, 1)));
         return all.append(' ').append(x.clearOffers()).append(orThrown(() -> come("zzzz", 0, 1, 1, 0))).toString();
     }
 
@@ -117,8 +119,8 @@ final class UndoBoundaries extends Boundaries {
     }
 
     private static void undoing() {
-        test("Promise 45", "Returns the number of changes that can still be undone; NONE, and nothing is different, if there was "
-            + "none.", () -> {
+        test("Promise 45", "Returns the number of changes that can still be undone; NONE, and nothing is different, if there "
+            + "was none.", () -> {
                 is("undo of nothing", -1, x.undo());
                 come("a", 0, 1, 1, 0);
                 is("undo of the only one", 0, x.undo());
@@ -157,8 +159,8 @@ final class UndoBoundaries extends Boundaries {
             x.undo();
             is("stones", 0, x.stones());
         });
-        test("Terms 8", "The latest 15 changes can be undone, the latest one first (one that is older than these cannot be undone "
-            + "any more, also when later ones were undone)", () -> {
+        test("Terms 8", "The latest 15 changes can be undone, the latest one first (one that is older than these cannot be "
+            + "undone any more, also when later ones were undone)", () -> {
                 comeMany(1);
                 for (int light = 1; light <= 40; light++) {
                     x.setLight(0, light);
@@ -189,8 +191,8 @@ final class UndoBoundaries extends Boundaries {
     }
 
     private static void changes() {
-        test("Terms 8", "A change is each call that is none of the questions (told as such) but append(), clearTape() and undo()",
-            () -> {
+        test("Terms 8", "A change is each call that is none of the questions (told as such) but append(), clearTape() and "
+            + "undo()", () -> {
                 rich();
                 is("undo", 14, x.undo());
                 x.append(0x61000000, 0, 0, 0, 0);
@@ -209,8 +211,8 @@ final class UndoBoundaries extends Boundaries {
                 is("what is so behind all questions", due, view(view));
             }
         });
-        test("Terms 8", "and that throws no exception (also if nothing is different, and if lay() or layAll() tells that it cannot "
-            + "be)", () -> {
+        test("Terms 8", "and that throws no exception (also if nothing is different, and if lay() or layAll() tells that it "
+            + "cannot be)", () -> {
                 comeMany(2);
                 isChange("scratch", 0, () -> x.scratch(0, 1));
                 isChange("setDrawer", 20, () -> x.setDrawer(0, 20, 200));
@@ -278,7 +280,7 @@ final class UndoBoundaries extends Boundaries {
             undoBringsBack("join", () -> {
                 put("a 5 4 50 10000;zz 0 1 1 0;");
                 return x.join();
-            });
+        });
             rich();
             x.undo();
             is("undo behind undo: what can be undone is not brought back", 13, x.undo());
@@ -322,8 +324,8 @@ final class UndoBoundaries extends Boundaries {
     }
 
     private static void figures() {
-        test("Promise 46", "17 at first, then for each stone 31 times as much, plus its kind, its size, its weight and its value, "
-            + "plus its drawer | Returns the sum.", () -> {
+        test("Promise 46", "17 at first, then for each stone 31 times as much, plus its kind, its size, its weight and its "
+            + "value, plus its drawer | Returns the sum.", () -> {
                 is("checksum without stones", 17, x.checksum());
                 come("a", 0, 1, 1, 0);
                 is("checksum: no drawer is -1", 17 * 31 + 2 - 1, x.checksum());
@@ -345,8 +347,8 @@ final class UndoBoundaries extends Boundaries {
             }
             is("it wrapped", (Object) true, (Object) wrapped);
         });
-        test("Promise 47", "Returns the mean value of the stones. | Returns the sum of their values, converted to double, divided by their number, converted to double; "
-            + "0.0 without stones.", () -> {
+        test("Promise 47", "Returns the mean value of the stones. | Returns the sum of their values, converted to double, "
+            + "divided by their number, converted to double; 0.0 without stones.", () -> {
                 is("meanValue without stones", (Object) 0.0, (Object) x.meanValue());
                 come("a", 0, 1, 1, 0);
                 is("meanValue of 0", (Object) 0.0, (Object) x.meanValue());
@@ -359,8 +361,9 @@ final class UndoBoundaries extends Boundaries {
                 }
                 is("meanValue of the greatest ones", (Object) 10000.0, (Object) x.meanValue());
             });
-        test("Promise 48", "Returns the share of the stones that lie in a drawer. | Returns how many lie in one, converted to float, divided by their number, converted to float; "
-            + "0.0f without stones.", () -> {
+        test("Promise 48", "Returns the share of the stones that lie in a drawer. | "
+            + "Returns how many lie in one, converted to float, divided by their number, converted to float; 0.0f without "
+            + "stones.", () -> {
                 is("laidShare without stones", (Object) 0.0f, (Object) x.laidShare());
                 comeMany(10);
                 is("laidShare of none", (Object) 0.0f, (Object) x.laidShare());
@@ -451,17 +454,18 @@ final class UndoBoundaries extends Boundaries {
             }
             noArgument("offer", () -> x.offer(0, 1, 1));
         });
-        test("Terms 9", "A stone, a scratch, something told, or a place that is not there causes an IndexOutOfBoundsException", () -> {
-            rich();
-            noIndex("a stone", () -> x.stoneOf(3, 0));
-            noIndex("a scratch", () -> x.unscratch(2));
-            noIndex("something told of a hand", () -> x.takeBack(2));
-            noIndex("an offer", () -> x.getsFrom(2));
-            noIndex("a place in an order", () -> x.orderAt(3));
-            noIndex("a place in a ring", () -> x.ringAt(0));
-            noIndex("a place in what is written", () -> x.writtenAt(99));
-            noIndex("a stay", () -> x.stayAt(1, 1, 0));
-        });
+        test("Terms 9", "A stone, a scratch, something told, or a place that is not there causes an "
+            + "IndexOutOfBoundsException", () -> {
+                rich();
+                noIndex("a stone", () -> x.stoneOf(3, 0));
+                noIndex("a scratch", () -> x.unscratch(2));
+                noIndex("something told of a hand", () -> x.takeBack(2));
+                noIndex("an offer", () -> x.getsFrom(2));
+                noIndex("a place in an order", () -> x.orderAt(3));
+                noIndex("a place in a ring", () -> x.ringAt(0));
+                noIndex("a place in what is written", () -> x.writtenAt(99));
+                noIndex("a stay", () -> x.stayAt(1, 1, 0));
+            });
         test("Terms 9", "another number out of range", () -> {
             rich();
             noArgument("what", () -> x.stoneOf(0, 6));
