@@ -109,6 +109,24 @@ public final class LanguageTests {
         }
     }
 
+    /** Each line of the face stands in the program just so: names, types, parameters and what is thrown. */
+    private static void lookAtDocument(String document, String source) {
+        Matcher block = Pattern.compile("(?s)public final class Stonecabinet \\{\n(.*?)\n}").matcher(document);
+        String text = source.replaceAll("\\s+", " ");
+        int lines = 0;
+        if (block.find()) {
+            for (String line : block.group(1).split("\n")) {
+                String head = line.trim();
+                boolean isConstant = head.contains(" = ");
+                String due = isConstant ? head : head.substring(0, head.length() - 1) + " {";
+                due("'" + head + "' stands in the program", text.contains(due));
+                lines++;
+            }
+        }
+        int told = text.split(" public (?!final class )", -1).length - 1;
+        due("the program has the " + lines + " lines of the face and no other, not " + told, lines > 1 && lines == told);
+    }
+
     /** Some 7.3 million elements are 4 bytes each; here a whole run takes far less than that. */
     private static void lookAtRoom() {
         com.sun.management.ThreadMXBean threads = (com.sun.management.ThreadMXBean) ManagementFactory.getThreadMXBean();
@@ -140,7 +158,9 @@ public final class LanguageTests {
 
     public static void main(String[] args) throws IOException {
         lookAtFace();
-        lookAtText(Files.readString(Path.of(args.length > 0 ? args[0] : "src/main/java/Stonecabinet.java")));
+        String source = Files.readString(Path.of(args.length > 0 ? args[0] : "src/main/java/Stonecabinet.java"));
+        lookAtText(source);
+        lookAtDocument(Files.readString(Path.of("../shared/DOC.md")), source);
         lookAtRoom();
         System.out.println(wrong == 0 ? "face, language and room are as due" : wrong + " things are not as due");
         if (wrong != 0) {
