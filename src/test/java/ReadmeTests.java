@@ -1,10 +1,11 @@
 import java.io.IOException;
+import java.net.URL;
+import java.net.URLClassLoader;
 import java.nio.file.Files;
 import java.nio.file.Path;
 import java.util.regex.Matcher;
 import java.util.regex.Pattern;
 import java.util.stream.Stream;
-import javax.tools.ToolProvider;
 
 /** README.md: its example answers what stands behind each call, and it tells how each test is run. */
 public final class ReadmeTests {
@@ -61,16 +62,15 @@ public final class ReadmeTests {
         return program.append("}\n}\n").toString();
     }
 
-    private static void runExample(String readme) throws IOException, ReflectiveOperationException {
+    private static void runExample(String readme) throws Exception {
         Path folder = Files.createTempDirectory("readme");
         Path source = folder.resolve("ReadmeExample.java");
         Files.writeString(source, programOf(exampleIn(readme)));
-        String path = System.getProperty("java.class.path");
-        int code = ToolProvider.getSystemJavaCompiler().run(null, System.out, System.out, "-nowarn", "-cp", path,
-                "-d", folder.toString(), source.toString());
+        int code = new ProcessBuilder("javac", "-nowarn", "-cp", System.getProperty("java.class.path"), "-d",
+                folder.toString(), source.toString()).inheritIO().start().waitFor();
         due("the example can be compiled", code == 0);
         if (code == 0) {
-            try (java.net.URLClassLoader loader = new java.net.URLClassLoader(new java.net.URL[] {folder.toUri().toURL()})) {
+            try (URLClassLoader loader = new URLClassLoader(new URL[] {folder.toUri().toURL()})) {
                 loader.loadClass("ReadmeExample").getMethod("run").invoke(null);
             }
         }
@@ -89,7 +89,7 @@ public final class ReadmeTests {
         }
     }
 
-    public static void main(String[] args) throws IOException, ReflectiveOperationException {
+    public static void main(String[] args) throws Exception {
         String readme = Files.readString(Path.of("README.md"));
         due("it has an example", exampleIn(readme).contains("cabinet."));
         runExample(readme);
